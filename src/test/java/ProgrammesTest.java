@@ -168,6 +168,7 @@ public final class ProgrammesTest {
         x.programme(9, 1);
         DUE.is("plan(0, 720, 3)", x.plan(0, 720, 3), 0);
         x.programme(9, 2048);
+        x.programme(9, 1);
         DUE.is("plan with another work", x.plan(0, 720, 3), 1);
         DUE.is("the first is free", x.chosen(0), 0);
         DUE.is("the last is not", x.chosen(9), 1);

@@ -23,6 +23,7 @@ public final class WaysTest {
         checkWhatCounts();
         checkBeats();
         checkPlaceAndPassed();
+        checkFullContest();
         checkDiffer();
         checkReach();
         checkReachByYes();
@@ -114,6 +115,8 @@ public final class WaysTest {
         PianoJury apart = marked(new int[][] {{50, 0}, {0, 90}});
         DUE.is("no juror marks both", apart.score(0, PAIRS, 0), 1);
         DUE.is("alone", single(5).score(0, PAIRS, 0), 0);
+        PianoJury first = marked(new int[][] {{50, 40}, {50, 0}});
+        DUE.is("the other is marked by juror 0 alone", first.score(0, PAIRS, 0), 2);
     }
 
     private static void checkPulled() {
@@ -129,6 +132,7 @@ public final class WaysTest {
         DUE.is("mean 67, from 57 to 77", z.score(0, PULLED, 0), UNIT / 3 * (57 + 77 + 77));
         PianoJury thirds = single(1, 1, 99, 99, 99, 99, 99);
         DUE.is("a mean that is not whole", thirds.score(0, PULLED, 0), UNIT / 49 * (2 * (497 - 70) + 5 * (497 + 70)));
+        DUE.is("pulled of one", single(33).score(0, PULLED, 0), UNIT * 33);
         DUE.is("pulled of none", single(0).score(0, PULLED, 0), NONE);
     }
 
@@ -175,6 +179,36 @@ public final class WaysTest {
         DUE.is("score 0 passes", x.passed(0, YES, 1), 23);
     }
 
+    /** Ten players, seven jurors, each of whom gives the later player more. */
+    private static void checkFullContest() {
+        int[][] rows = new int[7][10];
+        for (int j = 0; j < 7; j++) {
+            for (int p = 0; p < 10; p++) {
+                rows[j][p] = 10 * p + j + 1;
+            }
+        }
+        PianoJury x = marked(rows);
+        for (int p = 0; p < 10; p++) {
+            DUE.is("mean of " + p, x.score(0, MEAN, p), UNIT * (10 * p + 4));
+            DUE.is("pairs of " + p, x.score(0, PAIRS, p), 2 * p);
+            for (int way = 0; way < 6; way++) {
+                DUE.is("place of " + p + " by " + way, x.place(0, way, p), way == YES ? 1 : 10 - p);
+            }
+        }
+        x.pupil(0, 9, true);
+        x.pupil(6, 9, true);
+        DUE.is("without jurors 0 and 6", x.beats(0, 9, 8), 1);
+        for (int j = 1; j < 6; j++) {
+            x.pupil(j, 9, true);
+        }
+        DUE.is("all teach 9", x.score(0, MEAN, 9), NONE);
+        for (int p = 0; p < 9; p++) {
+            DUE.is("mean of " + p + " still", x.score(0, MEAN, p), UNIT * (10 * p + 4));
+            DUE.is("pairs of " + p + " still", x.score(0, PAIRS, p), 2 * p);
+        }
+        DUE.is("all but 9 pass", x.passed(0, MEAN, 10), 511);
+    }
+
     private static void checkDiffer() {
         PianoJury x = marked(new int[][] {{1, 40}, {60, 41}, {61, 42}});
         DUE.is("by mean", x.passed(0, MEAN, 1), 2);
@@ -198,6 +232,14 @@ public final class WaysTest {
         x.mark(0, 0, 0, NONE);
         DUE.is("one without a mark", x.reach(0, MEAN, 0, 0, 0), 1);
         DUE.is("and still none", x.mark(0, 0, 0, NONE), NONE);
+        PianoJury level = marked(new int[][] {{50, 100}, {98, 98}});
+        DUE.is("100 is enough", level.reach(0, MEAN, 0, 0, 0), 1);
+        PianoJury tooLow = marked(new int[][] {{50, 100}, {98, 99}});
+        DUE.is("more than 100 were needed", tooLow.reach(0, MEAN, 0, 0, 0), 2);
+        PianoJury low = marked(new int[][] {{50, 1}, {5, 5}});
+        DUE.is("less than 1 were needed", low.reach(0, MEAN, 0, 0, 1), 1);
+        PianoJury lower = marked(new int[][] {{50, 2}, {5, 5}});
+        DUE.is("1 is enough", lower.reach(0, MEAN, 0, 0, 1), 2);
         x.pupil(0, 1, true);
         DUE.refuses("reach of a pupil", x, () -> x.reach(0, MEAN, 0, 1, 0), STATE);
         DUE.refuses("outside ahead of state", x, () -> x.reach(0, 6, 0, 1, 0), OUTSIDE);
@@ -221,6 +263,7 @@ public final class WaysTest {
         DUE.is("1 up, 2 down by mean", x.sway(0, MEAN, 0, 1), 2);
         DUE.is("none by middle", x.sway(0, MIDDLE, 0, 1), 0);
         DUE.is("for three all pass", x.sway(0, MEAN, 0, 3), 0);
+        DUE.is("0 up, 2 down", marked(new int[][] {{50, 60, 70}}).sway(0, MEAN, 0, 1), 3);
         x.pupil(0, 1, true);
         DUE.is("a pupil does not count", x.sway(0, MEAN, 0, 1), 1);
         x.contest(2, 2);
