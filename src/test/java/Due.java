@@ -1,4 +1,5 @@
-import java.util.function.IntSupplier;
+import java.util.function.Supplier;
+import java.util.function.ToLongFunction;
 
 /** Compares answers with what is due, prints each that differs, and ends the program with 1 if one did. */
 final class Due {
@@ -18,10 +19,14 @@ final class Due {
         }
     }
 
-    /** The call answers the refusal, and nothing that digest(), chosen() or heard() tells has changed. */
-    void refuses(String call, PianoJury x, IntSupplier made, int want) {
+    /**
+     * The call answers so, and leaves all that the object tells as it was. The object is made for this call alone:
+     * the document promises nothing behind the 512th call, and looking at all takes many.
+     */
+    void leaves(String call, Supplier<PianoJury> made, ToLongFunction<PianoJury> asking, long want) {
+        PianoJury x = made.get();
         long before = told(x);
-        is(call, made.getAsInt(), want);
+        is(call, asking.applyAsLong(x), want);
         is(call + " changes nothing", told(x), before);
     }
 
@@ -32,8 +37,12 @@ final class Due {
         }
     }
 
-    private static long told(PianoJury x) {
+    /** One number of digest(), which tells the rules, all that was said and what is chosen, count() and heard(). */
+    static long told(PianoJury x) {
         long h = x.digest();
+        for (int what = 0; what < 6; what++) {
+            h = 37 * h + x.count(what);
+        }
         for (int w = 0; w < 12; w++) {
             h = 37 * h + x.heard(w);
         }

@@ -1,9 +1,9 @@
-/** Promises 7 to 13: score, beats, place, passed, differ, reach, sway. */
+/**
+ * Promises 7 to 13: score, beats, place, passed, differ, reach, sway, in ordinary contests. WayEdgesTest has what the
+ * document says of their edges; what they refuse, RefusalsTest tries.
+ */
 public final class WaysTest {
     private static final int NONE = PianoJury.NONE;
-    private static final int UNKNOWN = PianoJury.UNKNOWN;
-    private static final int OUTSIDE = PianoJury.OUTSIDE;
-    private static final int STATE = PianoJury.STATE;
     private static final int UNIT = 176400;
     private static final int MEAN = 0;
     private static final int CUT = 1;
@@ -29,70 +29,47 @@ public final class WaysTest {
         checkReachByYes();
         checkSway();
         checkSwayByYes();
-        checkUnknown();
-        checkOutside();
         DUE.end();
     }
 
-    /** Row j has what juror j gives to the players, 0 for no mark. */
-    private static PianoJury marked(int[][] rows) {
-        PianoJury x = new PianoJury();
-        x.contest(rows[0].length, rows.length);
-        for (int j = 0; j < rows.length; j++) {
-            for (int p = 0; p < rows[j].length; p++) {
-                x.mark(0, j, p, rows[j][p] == 0 ? NONE : rows[j][p]);
-            }
-        }
-        return x;
-    }
-
-    /** One player, a mark of each juror. */
-    private static PianoJury single(int... given) {
-        int[][] rows = new int[given.length][1];
-        for (int j = 0; j < given.length; j++) {
-            rows[j][0] = given[j];
-        }
-        return marked(rows);
-    }
-
     private static void checkMean() {
-        DUE.is("mean of none", single(0, 0).score(0, MEAN, 0), NONE);
-        DUE.is("mean of 1", single(1).score(0, MEAN, 0), UNIT);
-        DUE.is("mean of 7, 8", single(7, 0, 8).score(0, MEAN, 0), UNIT * 15 / 2);
-        DUE.is("mean of seven", single(1, 2, 3, 4, 5, 6, 8).score(0, MEAN, 0), UNIT / 7 * 29);
-        DUE.is("mean of seven 100", single(100, 100, 100, 100, 100, 100, 100).score(0, MEAN, 0), UNIT * 100);
+        DUE.is("mean of none", Given.single(0, 0).score(0, MEAN, 0), NONE);
+        DUE.is("mean of 1", Given.single(1).score(0, MEAN, 0), UNIT);
+        DUE.is("mean of 7, 8", Given.single(7, 0, 8).score(0, MEAN, 0), UNIT * 15 / 2);
+        DUE.is("mean of seven", Given.single(1, 2, 3, 4, 5, 6, 8).score(0, MEAN, 0), UNIT / 7 * 29);
+        DUE.is("mean of seven 100", Given.single(100, 100, 100, 100, 100, 100, 100).score(0, MEAN, 0), UNIT * 100);
     }
 
     private static void checkCut() {
-        PianoJury five = single(90, 20, 30, 40, 100);
+        PianoJury five = Given.single(90, 20, 30, 40, 100);
         DUE.is("one cut of five", five.score(0, CUT, 0), UNIT * 160 / 3);
         five.rule(0, 2);
         DUE.is("two cut of five", five.score(0, CUT, 0), UNIT * 40);
         five.rule(0, 0);
         DUE.is("none cut of five", five.score(0, CUT, 0), UNIT * 56);
-        PianoJury four = single(10, 20, 30, 100);
+        PianoJury four = Given.single(10, 20, 30, 100);
         four.rule(0, 2);
         DUE.is("two cut of four would leave none", four.score(0, CUT, 0), UNIT * 40);
         four.rule(0, 1);
         DUE.is("one cut of four", four.score(0, CUT, 0), UNIT * 25);
-        DUE.is("one cut of two would leave none", single(10, 30).score(0, CUT, 0), UNIT * 20);
-        DUE.is("one cut of three", single(30, 10, 11).score(0, CUT, 0), UNIT * 11);
-        DUE.is("one cut of one", single(10).score(0, CUT, 0), UNIT * 10);
-        DUE.is("equal marks are cut one by one", single(50, 50, 50, 90).score(0, CUT, 0), UNIT * 50);
-        DUE.is("cut of none", single(0).score(0, CUT, 0), NONE);
+        DUE.is("one cut of two would leave none", Given.single(10, 30).score(0, CUT, 0), UNIT * 20);
+        DUE.is("one cut of three", Given.single(30, 10, 11).score(0, CUT, 0), UNIT * 11);
+        DUE.is("one cut of one", Given.single(10).score(0, CUT, 0), UNIT * 10);
+        DUE.is("equal marks are cut one by one", Given.single(50, 50, 50, 90).score(0, CUT, 0), UNIT * 50);
+        DUE.is("cut of none", Given.single(0).score(0, CUT, 0), NONE);
     }
 
     private static void checkMiddle() {
-        DUE.is("middle of one", single(33).score(0, MIDDLE, 0), UNIT * 33);
-        DUE.is("middle of two", single(33, 90).score(0, MIDDLE, 0), UNIT / 2 * 123);
-        DUE.is("middle of three", single(99, 1, 2).score(0, MIDDLE, 0), UNIT * 2);
-        DUE.is("middle of four", single(99, 1, 50, 3).score(0, MIDDLE, 0), UNIT / 2 * 53);
-        DUE.is("middle of seven", single(7, 6, 5, 90, 91, 92, 93).score(0, MIDDLE, 0), UNIT * 90);
-        DUE.is("middle of none", single(0, 0).score(0, MIDDLE, 0), NONE);
+        DUE.is("middle of one", Given.single(33).score(0, MIDDLE, 0), UNIT * 33);
+        DUE.is("middle of two", Given.single(33, 90).score(0, MIDDLE, 0), UNIT / 2 * 123);
+        DUE.is("middle of three", Given.single(99, 1, 2).score(0, MIDDLE, 0), UNIT * 2);
+        DUE.is("middle of four", Given.single(99, 1, 50, 3).score(0, MIDDLE, 0), UNIT / 2 * 53);
+        DUE.is("middle of seven", Given.single(7, 6, 5, 90, 91, 92, 93).score(0, MIDDLE, 0), UNIT * 90);
+        DUE.is("middle of none", Given.single(0, 0).score(0, MIDDLE, 0), NONE);
     }
 
     private static void checkYes() {
-        PianoJury x = single(10, 20, 30, 0);
+        PianoJury x = Given.single(10, 20, 30, 0);
         DUE.is("nobody says yes", x.score(0, YES, 0), 0);
         x.yes(0, 1, 0, true);
         DUE.is("one of three", x.score(0, YES, 0), UNIT / 3);
@@ -108,36 +85,36 @@ public final class WaysTest {
     }
 
     private static void checkPairs() {
-        PianoJury x = marked(new int[][] {{50, 50, 70, 0}, {60, 50, 0, 0}, {40, 50, 0, 0}});
+        PianoJury x = Given.marked(new int[][] {{50, 50, 70, 0}, {60, 50, 0, 0}, {40, 50, 0, 0}});
         DUE.is("even with 1, beaten by 2, not with 3", x.score(0, PAIRS, 0), 1);
         DUE.is("beats two", x.score(0, PAIRS, 2), 4);
         DUE.is("no marks", x.score(0, PAIRS, 3), NONE);
-        PianoJury apart = marked(new int[][] {{50, 0}, {0, 90}});
+        PianoJury apart = Given.marked(new int[][] {{50, 0}, {0, 90}});
         DUE.is("no juror marks both", apart.score(0, PAIRS, 0), 1);
-        DUE.is("alone", single(5).score(0, PAIRS, 0), 0);
-        PianoJury first = marked(new int[][] {{50, 40}, {50, 0}});
+        DUE.is("alone", Given.single(5).score(0, PAIRS, 0), 0);
+        PianoJury first = Given.marked(new int[][] {{50, 40}, {50, 0}});
         DUE.is("the other is marked by juror 0 alone", first.score(0, PAIRS, 0), 2);
     }
 
     private static void checkPulled() {
-        PianoJury x = single(10, 50, 90);
+        PianoJury x = Given.single(10, 50, 90);
         DUE.is("pulled to 40 and 60", x.score(0, PULLED, 0), UNIT * 50);
-        PianoJury y = single(10, 11, 90);
+        PianoJury y = Given.single(10, 11, 90);
         DUE.is("mean 37, from 27 to 47", y.score(0, PULLED, 0), UNIT / 3 * (27 + 27 + 47));
         y.rule(1, 50);
         DUE.is("from -13 to 87", y.score(0, PULLED, 0), UNIT / 3 * (10 + 11 + 87));
         y.rule(1, 1);
         DUE.is("from 36 to 38", y.score(0, PULLED, 0), UNIT / 3 * (36 + 36 + 38));
-        PianoJury z = single(1, 100, 100);
+        PianoJury z = Given.single(1, 100, 100);
         DUE.is("mean 67, from 57 to 77", z.score(0, PULLED, 0), UNIT / 3 * (57 + 77 + 77));
-        PianoJury thirds = single(1, 1, 99, 99, 99, 99, 99);
+        PianoJury thirds = Given.single(1, 1, 99, 99, 99, 99, 99);
         DUE.is("a mean that is not whole", thirds.score(0, PULLED, 0), UNIT / 49 * (2 * (497 - 70) + 5 * (497 + 70)));
-        DUE.is("pulled of one", single(33).score(0, PULLED, 0), UNIT * 33);
-        DUE.is("pulled of none", single(0).score(0, PULLED, 0), NONE);
+        DUE.is("pulled of one", Given.single(33).score(0, PULLED, 0), UNIT * 33);
+        DUE.is("pulled of none", Given.single(0).score(0, PULLED, 0), NONE);
     }
 
     private static void checkWhatCounts() {
-        PianoJury x = marked(new int[][] {{10, 20}, {30, 60}});
+        PianoJury x = Given.marked(new int[][] {{10, 20}, {30, 60}});
         x.pupil(1, 0, true);
         DUE.is("the teacher is left out", x.score(0, MEAN, 0), UNIT * 10);
         DUE.is("middle without the teacher", x.score(0, MIDDLE, 0), UNIT * 10);
@@ -152,7 +129,7 @@ public final class WaysTest {
     }
 
     private static void checkBeats() {
-        PianoJury x = marked(new int[][] {{50, 40, 0}, {60, 70, 0}, {80, 70, 0}, {10, 10, 99}});
+        PianoJury x = Given.marked(new int[][] {{50, 40, 0}, {60, 70, 0}, {80, 70, 0}, {10, 10, 99}});
         DUE.is("two to one", x.beats(0, 0, 1), 1);
         DUE.is("the other way", x.beats(0, 1, 0), -1);
         x.pupil(0, 1, true);
@@ -163,7 +140,7 @@ public final class WaysTest {
     }
 
     private static void checkPlaceAndPassed() {
-        PianoJury x = marked(new int[][] {{70, 80, 70, 0, 60}});
+        PianoJury x = Given.marked(new int[][] {{70, 80, 70, 0, 60}});
         int[] places = {2, 1, 2, 5, 4};
         for (int p = 0; p < 5; p++) {
             DUE.is("place of " + p, x.place(0, MEAN, p), places[p]);
@@ -187,7 +164,7 @@ public final class WaysTest {
                 rows[j][p] = 10 * p + j + 1;
             }
         }
-        PianoJury x = marked(rows);
+        PianoJury x = Given.marked(rows);
         for (int p = 0; p < 10; p++) {
             DUE.is("mean of " + p, x.score(0, MEAN, p), UNIT * (10 * p + 4));
             DUE.is("pairs of " + p, x.score(0, PAIRS, p), 2 * p);
@@ -210,7 +187,7 @@ public final class WaysTest {
     }
 
     private static void checkDiffer() {
-        PianoJury x = marked(new int[][] {{1, 40}, {60, 41}, {61, 42}});
+        PianoJury x = Given.marked(new int[][] {{1, 40}, {60, 41}, {61, 42}});
         DUE.is("by mean", x.passed(0, MEAN, 1), 2);
         DUE.is("by middle", x.passed(0, MIDDLE, 1), 1);
         DUE.is("both differ", x.differ(0, MEAN, MIDDLE, 1), 2);
@@ -222,7 +199,7 @@ public final class WaysTest {
     }
 
     private static void checkReach() {
-        PianoJury x = marked(new int[][] {{50, 60, 70}, {50, 60, 70}});
+        PianoJury x = Given.marked(new int[][] {{50, 60, 70}, {50, 60, 70}});
         DUE.is("least with 100", x.reach(0, MEAN, 0, 0, 0), 1);
         DUE.is("greatest with 1", x.reach(0, MEAN, 0, 2, 1), 3);
         DUE.is("greatest of 0", x.reach(0, MEAN, 0, 0, 1), 3);
@@ -232,23 +209,18 @@ public final class WaysTest {
         x.mark(0, 0, 0, NONE);
         DUE.is("one without a mark", x.reach(0, MEAN, 0, 0, 0), 1);
         DUE.is("and still none", x.mark(0, 0, 0, NONE), NONE);
-        PianoJury level = marked(new int[][] {{50, 100}, {98, 98}});
+        PianoJury level = Given.marked(new int[][] {{50, 100}, {98, 98}});
         DUE.is("100 is enough", level.reach(0, MEAN, 0, 0, 0), 1);
-        PianoJury tooLow = marked(new int[][] {{50, 100}, {98, 99}});
+        PianoJury tooLow = Given.marked(new int[][] {{50, 100}, {98, 99}});
         DUE.is("more than 100 were needed", tooLow.reach(0, MEAN, 0, 0, 0), 2);
-        PianoJury low = marked(new int[][] {{50, 1}, {5, 5}});
+        PianoJury low = Given.marked(new int[][] {{50, 1}, {5, 5}});
         DUE.is("less than 1 were needed", low.reach(0, MEAN, 0, 0, 1), 1);
-        PianoJury lower = marked(new int[][] {{50, 2}, {5, 5}});
+        PianoJury lower = Given.marked(new int[][] {{50, 2}, {5, 5}});
         DUE.is("1 is enough", lower.reach(0, MEAN, 0, 0, 1), 2);
-        x.pupil(0, 1, true);
-        DUE.refuses("reach of a pupil", x, () -> x.reach(0, MEAN, 0, 1, 0), STATE);
-        DUE.refuses("outside ahead of state", x, () -> x.reach(0, 6, 0, 1, 0), OUTSIDE);
-        DUE.refuses("side ahead of state", x, () -> x.reach(0, 0, 0, 1, 2), OUTSIDE);
-        DUE.refuses("unknown ahead of outside", x, () -> x.reach(3, 6, 0, 1, 2), UNKNOWN);
     }
 
     private static void checkReachByYes() {
-        PianoJury x = marked(new int[][] {{50, 60, 70}, {50, 60, 0}});
+        PianoJury x = Given.marked(new int[][] {{50, 60, 70}, {50, 60, 0}});
         x.yes(0, 0, 1, true);
         DUE.is("with a yes beside 1", x.reach(0, YES, 0, 0, 0), 1);
         DUE.is("without", x.reach(0, YES, 0, 0, 1), 2);
@@ -259,11 +231,11 @@ public final class WaysTest {
     }
 
     private static void checkSway() {
-        PianoJury x = marked(new int[][] {{50, 60, 70}, {50, 60, 70}, {50, 60, 70}});
+        PianoJury x = Given.marked(new int[][] {{50, 60, 70}, {50, 60, 70}, {50, 60, 70}});
         DUE.is("1 up, 2 down by mean", x.sway(0, MEAN, 0, 1), 2);
         DUE.is("none by middle", x.sway(0, MIDDLE, 0, 1), 0);
         DUE.is("for three all pass", x.sway(0, MEAN, 0, 3), 0);
-        DUE.is("0 up, 2 down", marked(new int[][] {{50, 60, 70}}).sway(0, MEAN, 0, 1), 3);
+        DUE.is("0 up, 2 down", Given.marked(new int[][] {{50, 60, 70}}).sway(0, MEAN, 0, 1), 3);
         x.pupil(0, 1, true);
         DUE.is("a pupil does not count", x.sway(0, MEAN, 0, 1), 1);
         x.contest(2, 2);
@@ -275,61 +247,11 @@ public final class WaysTest {
     }
 
     private static void checkSwayByYes() {
-        PianoJury x = marked(new int[][] {{50, 60, 70}, {50, 60, 0}});
+        PianoJury x = Given.marked(new int[][] {{50, 60, 70}, {50, 60, 0}});
         x.yes(0, 0, 1, true);
         x.yes(0, 1, 1, true);
         DUE.is("juror 0: 1 stays first alike", x.sway(0, YES, 0, 1), 1);
         DUE.is("juror 1 cannot move 2", x.sway(0, YES, 1, 1), 0);
         DUE.is("yes stays", x.count(3), 2);
-    }
-
-    private static void checkUnknown() {
-        PianoJury x = marked(new int[][] {{50, 60, 70}, {50, 60, 0}});
-        int[] rounds = {-1, 3, Integer.MAX_VALUE, Integer.MIN_VALUE};
-        for (int r : rounds) {
-            DUE.refuses("score, round", x, () -> x.score(r, 9, 0), UNKNOWN);
-            DUE.refuses("beats, round", x, () -> x.beats(r, 0, 1), UNKNOWN);
-            DUE.refuses("place, round", x, () -> x.place(r, 9, 0), UNKNOWN);
-            DUE.refuses("passed, round", x, () -> x.passed(r, 9, 0), UNKNOWN);
-            DUE.refuses("differ, round", x, () -> x.differ(r, 9, 9, 0), UNKNOWN);
-            DUE.refuses("reach, round", x, () -> x.reach(r, 9, 0, 0, 5), UNKNOWN);
-            DUE.refuses("sway, round", x, () -> x.sway(r, 9, 0, 0), UNKNOWN);
-        }
-        int[] nobody = {-1, 3, 10, Integer.MAX_VALUE, Integer.MIN_VALUE};
-        for (int p : nobody) {
-            DUE.refuses("score, p", x, () -> x.score(0, 9, p), UNKNOWN);
-            DUE.refuses("beats, p", x, () -> x.beats(0, p, 1), UNKNOWN);
-            DUE.refuses("beats, q", x, () -> x.beats(0, 1, p), UNKNOWN);
-            DUE.refuses("place, p", x, () -> x.place(0, 9, p), UNKNOWN);
-            DUE.refuses("reach, p", x, () -> x.reach(0, 9, 0, p, 5), UNKNOWN);
-        }
-        int[] noJuror = {-1, 2, 7, Integer.MAX_VALUE};
-        for (int j : noJuror) {
-            DUE.refuses("reach, j", x, () -> x.reach(0, 9, j, 0, 5), UNKNOWN);
-            DUE.refuses("sway, j", x, () -> x.sway(0, 9, j, 0), UNKNOWN);
-        }
-    }
-
-    private static void checkOutside() {
-        PianoJury x = marked(new int[][] {{50, 60, 70}, {50, 60, 0}});
-        int[] ways = {-1, 6, Integer.MAX_VALUE, Integer.MIN_VALUE};
-        for (int way : ways) {
-            DUE.refuses("score, way", x, () -> x.score(0, way, 0), OUTSIDE);
-            DUE.refuses("place, way", x, () -> x.place(0, way, 0), OUTSIDE);
-            DUE.refuses("passed, way", x, () -> x.passed(0, way, 1), OUTSIDE);
-            DUE.refuses("differ, way", x, () -> x.differ(0, way, 0, 1), OUTSIDE);
-            DUE.refuses("differ, other", x, () -> x.differ(0, 0, way, 1), OUTSIDE);
-            DUE.refuses("reach, way", x, () -> x.reach(0, way, 0, 0, 0), OUTSIDE);
-            DUE.refuses("sway, way", x, () -> x.sway(0, way, 0, 1), OUTSIDE);
-        }
-        int[] limits = {0, 11, -1, Integer.MAX_VALUE};
-        for (int k : limits) {
-            DUE.refuses("passed, k", x, () -> x.passed(0, 0, k), OUTSIDE);
-            DUE.refuses("differ, k", x, () -> x.differ(0, 0, 1, k), OUTSIDE);
-            DUE.refuses("sway, k", x, () -> x.sway(0, 0, 0, k), OUTSIDE);
-        }
-        DUE.refuses("reach, side 2", x, () -> x.reach(0, 0, 0, 0, 2), OUTSIDE);
-        DUE.refuses("reach, side -1", x, () -> x.reach(0, 0, 0, 0, -1), OUTSIDE);
-        DUE.is("k may be above n", x.sway(0, 0, 0, 10), 0);
     }
 }
