@@ -684,21 +684,31 @@ public final class PianoJury {
 
     /**
      * Chooses for p and all PLAYERS behind it, the first that can be; false, with no choice made, if none can.
-     * once, twice and thrice are the WORKS heard so often or oftener; a call a PLAYER, so ten deep at most.
+     * once, twice and thrice are the WORKS heard so often or oftener; p is also how deep it goes, ten at most.
      */
     private boolean choosesFrom(int p, int once, int twice, int thrice) {
         if (p >= players) {
             return true;
         }
         for (int i = 0; i < programmeCounts[p]; i++) {
-            int works = fitting[programmeCellOf(p, i)];
-            boolean isFree = works != 0 && (works & thrice) == 0;
-            if (isFree && choosesFrom(p + 1, once | works, twice | (once & works), thrice | (twice & works))) {
-                choices[p] = i;
+            if (choosesWith(p, i, once, twice, thrice)) {
                 return true;
             }
         }
         return false;
+    }
+
+    /** The same, where p has its PROGRAMME i. */
+    private boolean choosesWith(int p, int i, int once, int twice, int thrice) {
+        int works = fitting[programmeCellOf(p, i)];
+        if (works == 0 || (works & thrice) != 0) {
+            return false;
+        }
+        if (!choosesFrom(p + 1, once | works, twice | (once & works), thrice | (twice & works))) {
+            return false;
+        }
+        choices[p] = i;
+        return true;
     }
 
     private static int factorial(int k) {
